@@ -110,7 +110,7 @@ public final class OrreryWorks {
         Strip row = stripAt(strip);
         Cell from = registerAt(register);
         if (row == null || from == null || !isKind(lane)) return refuse(BAD);
-        int refusal = row.refusalAs(lane, i);
+        int refusal = row.refusalAs(lane);
         if (refusal != 0) return refuse(refusal);
         Cell place = row.placeAt(i);
         if (place == null) return refuse(INDEX);
@@ -121,7 +121,7 @@ public final class OrreryWorks {
     public long kept(int strip, int lane, int i) {
         Strip row = stripAt(strip);
         if (row == null || !isKind(lane)) return refuseAnyNumber(BAD);
-        int refusal = row.refusalAs(lane, i);
+        int refusal = row.refusalAs(lane);
         if (refusal != 0) return refuseAnyNumber(refusal);
         Cell place = row.placeAt(i);
         if (place == null) return refuseAnyNumber(INDEX);
@@ -132,7 +132,7 @@ public final class OrreryWorks {
         Strip row = stripAt(strip);
         Cell to = registerAt(register);
         if (row == null || to == null) return refuse(BAD);
-        // what is GONE is of no LANE, so that a GONE strip of ints is NULL, not CAST
+        // before CAST, since what is GONE is of no LANE
         if (row.isGone()) return refuse(NULL);
         if (!isRealKind(row.lane)) return refuse(CAST);
         return grant(row.restsInto(to));
@@ -373,11 +373,10 @@ public final class OrreryWorks {
             return wasThere;
         }
 
-        /** 0, or why place i cannot be had from the strip as a row of asLane. */
-        int refusalAs(int asLane, int i) {
+        /** 0, or why the strip cannot be taken as a row of asLane; what is GONE is of no LANE, so never CAST. */
+        int refusalAs(int asLane) {
             if (places == null) return NULL;
-            if (lane != asLane) return CAST;
-            return i < 0 || i >= places.length ? INDEX : 0;
+            return lane == asLane ? 0 : CAST;
         }
 
         Cell placeAt(int i) {
@@ -426,7 +425,7 @@ public final class OrreryWorks {
             switch (sort) {
                 case COARSE: return (int) wheel.position;
                 case FINE: return thousandths();
-                case VERNIER: return Reals.bitsOf(FLOAT, Reals.ofLong(FLOAT, thousandths()));
+                case VERNIER: return Reals.floatBits((float) thousandths());
                 default: return Reals.hasMinus(wheel.position) ? 1 : 0;
             }
         }
@@ -510,7 +509,7 @@ public final class OrreryWorks {
         private static final int LEAST_DOUBLE_EXPONENT = -1022, LEAST_FLOAT_EXPONENT = -126;
         private static final long DOUBLE_SIZE_MASK = 0x7FFFFFFFFFFFFFFFL, DOUBLE_ENDLESS = 0x7FF0000000000000L;
         private static final int FLOAT_SIZE_MASK = 0x7FFFFFFF, FLOAT_ENDLESS = 0x7F800000;
-        /** A rest has at most 53 digits, so that as many more do not reach a long's sign. */
+        /** A rest has at most 53 digits, and ten more do not reach a long's sign. */
         private static final int REST_STEP = 10;
 
         static boolean isDouble(long bits) {
@@ -578,7 +577,7 @@ public final class OrreryWorks {
         private static double restOf(double a, double b) {
             double size = sizeOf(a);
             double by = sizeOf(b);
-            if (size < by || by == 0.0) return a;
+            if (size < by) return a;
             int exponent = exponentOf(by);
             long divisor = digitsOf(by, exponent, DOUBLE_DIGITS);
             if (divisor <= 0) return a;
@@ -599,7 +598,7 @@ public final class OrreryWorks {
             return hasMinus(value) ? size | ~DOUBLE_SIZE_MASK : size;
         }
 
-        private static int floatBits(double value) {
+        static int floatBits(double value) {
             int size = isEndless(value) ? FLOAT_ENDLESS : (int) packed(sizeOf(value), FLOAT_DIGITS, LEAST_FLOAT_EXPONENT);
             return hasMinus(value) ? size | ~FLOAT_SIZE_MASK : size;
         }
@@ -613,7 +612,10 @@ public final class OrreryWorks {
             return withSign(bits < 0, (float) unpacked(bits & FLOAT_SIZE_MASK, FLOAT_DIGITS, LEAST_FLOAT_EXPONENT));
         }
 
-        /** The leading digit is added into the exponent, which is told one too low for that; too small a value has none. */
+        /**
+         * The exponent goes in one too low, and the leading digit, added with the others, carries
+         * into it; a value too small for a leading digit so gets exponent 0 by itself.
+         */
         private static long packed(double size, int digits, int leastExponent) {
             int exponent = Math.max(exponentOf(size), leastExponent);
             return ((long) (exponent - leastExponent) << digits) + digitsOf(size, exponent, digits);
@@ -628,7 +630,7 @@ public final class OrreryWorks {
             return (double) (fraction + leadingDigit) * powerOfTwo(exponent - 1 + leastExponent - digits);
         }
 
-        /** In two steps, since the powers of two that lie between them may be beyond the doubles. */
+        /** By two powers, not one: 2 to the 1074th, which the least double needs, is no double. */
         private static long digitsOf(double size, int exponent, int digits) {
             return (long) (size / powerOfTwo(exponent) * powerOfTwo(digits));
         }
@@ -654,7 +656,7 @@ public final class OrreryWorks {
         private static double powerOfTwo(int n) {
             double power = 1.0;
             double factor = n < 0 ? 0.5 : 2.0;
-            for (int left = Math.abs(n); left > 0; left /= 2) {
+            for (int left = n < 0 ? -n : n; left > 0; left /= 2) {
                 if (left % 2 == 1) power = power * factor;
                 factor = factor * factor;
             }
