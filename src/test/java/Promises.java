@@ -1,74 +1,38 @@
 /** Each promise of the document by hand: ordinary inputs, the edges that it names, and wrong inputs. */
-public final class Promises {
-    private static final double ENDLESS = Double.POSITIVE_INFINITY;
-    private static final int NONE = OrreryWorks.NONE, BAD = OrreryWorks.BAD, FULL = OrreryWorks.FULL, SPUN = OrreryWorks.SPUN,
-        VOID = OrreryWorks.VOID, ZERO = OrreryWorks.ZERO, CAST = OrreryWorks.CAST, INDEX = OrreryWorks.INDEX,
-        STORE = OrreryWorks.STORE, NULL = OrreryWorks.NULL;
-    private static final int INT = 0, LONG = 1, FLOAT = 2, DOUBLE = 3;
-    private static int wrong = 0;
-
+public final class Promises extends Sentences {
     public static void main(String[] args) {
-        newObject();
-        wheel();
-        turn();
-        turnOfFloats();
-        wheelOf();
-        register();
-        load();
-        read();
-        move();
-        take();
-        workOfWholes();
-        workOfReals();
-        workIsVoid();
-        strip();
-        tear();
-        keep();
-        kept();
-        rests();
-        pointer();
-        stand();
-        set();
-        hang();
-        show();
-        all();
-        count();
-        often();
-        refused();
-        System.out.println(wrong == 0 ? "all promises hold" : wrong + " answers are not as promised");
-        if (wrong != 0) System.exit(1);
-    }
-
-    private static void due(String what, long got, long want) {
-        if (got == want) return;
-        wrong++;
-        System.out.println(what + " answered " + got + ", due is " + want);
-    }
-
-    /** A call that answers any number: 0, and why. */
-    private static void dueRefused(OrreryWorks x, String what, long got, int why) {
-        due(what, got, 0);
-        due("refused() after " + what, x.refused(), why);
-    }
-
-    private static long bits(double d) {
-        return Double.doubleToLongBits(d);
-    }
-
-    private static long bits(float f) {
-        return Float.floatToIntBits(f);
-    }
-
-    private static OrreryWorks withRegisters(int... kinds) {
-        OrreryWorks x = new OrreryWorks();
-        for (int kind : kinds) x.register(kind);
-        return x;
+        sentence("Promise 1: A new object", Promises::newObject);
+        sentence("Promise 2: wheel", Promises::wheel);
+        sentence("Promise 3: turn", Promises::turn);
+        sentence("Promise 3: turn, of floats", Promises::turnOfFloats);
+        sentence("Promise 4: wheelOf", Promises::wheelOf);
+        sentence("Promise 5: register", Promises::register);
+        sentence("Promise 6: load", Promises::load);
+        sentence("Promise 7: read", Promises::read);
+        sentence("Promise 8: move", Promises::move);
+        sentence("Promise 9: take", Promises::take);
+        sentence("Promise 10: work, of ints and longs", Promises::workOfWholes);
+        sentence("Promise 10: work, of floats and doubles", Promises::workOfReals);
+        sentence("Promise 10: work, VOID", Promises::workIsVoid);
+        sentence("Promise 11: strip", Promises::strip);
+        sentence("Promise 12: tear", Promises::tear);
+        sentence("Promise 13: keep", Promises::keep);
+        sentence("Promise 14: kept", Promises::kept);
+        sentence("Promise 15: rests", Promises::rests);
+        sentence("Promise 16: pointer", Promises::pointer);
+        sentence("Promise 17: stand", Promises::stand);
+        sentence("Promise 18: set", Promises::set);
+        sentence("Promise 19: hang", Promises::hang);
+        sentence("Promise 20: show", Promises::show);
+        sentence("Promise 21: all", Promises::all);
+        sentence("Promise 22: count", Promises::count);
+        sentence("Promise 23: often", Promises::often);
+        sentence("Promise 24: refused", Promises::refused);
+        end();
     }
 
     private static OrreryWorks withWheels(double... turns) {
-        OrreryWorks x = new OrreryWorks();
-        for (double turn : turns) x.wheel(DOUBLE, bits(turn));
-        return x;
+        return withWheels(DOUBLE, turns);
     }
 
     private static void newObject() {
@@ -107,7 +71,7 @@ public final class Promises {
         due("2: a tenth and no more", x.wheel(DOUBLE, bits(1.0)), FULL);
         due("2: BAD before FULL", x.wheel(DOUBLE, bits(0.0)), BAD);
         due("2: still ten", x.count(0), 10);
-        dueRefused(x, "2: no eleventh", x.wheelOf(10, 0), BAD);
+        dueNothing(x, "2: no eleventh", x.wheelOf(10, 0), BAD);
         due("2: FULL once", x.often(FULL), 1);
     }
 
@@ -125,19 +89,19 @@ public final class Promises {
         due("3: .. its rest", x.wheelOf(1, 0), bits(-1.0));
         due("3: endless turn", x.turn(2, bits(Double.MAX_VALUE)), 0);
         due("3: .. all is rest", x.wheelOf(2, 0), bits(Double.MAX_VALUE));
-        dueRefused(x, "3: SUM endless", x.turn(2, bits(Double.MAX_VALUE)), SPUN);
+        dueNothing(x, "3: SUM endless", x.turn(2, bits(Double.MAX_VALUE)), SPUN);
         due("3: .. all stays", x.wheelOf(2, 0), bits(Double.MAX_VALUE));
-        dueRefused(x, "3: by endless", x.turn(0, bits(ENDLESS)), SPUN);
-        dueRefused(x, "3: by endless below", x.turn(0, bits(-ENDLESS)), SPUN);
+        dueNothing(x, "3: by endless", x.turn(0, bits(ENDLESS)), SPUN);
+        dueNothing(x, "3: by endless below", x.turn(0, bits(-ENDLESS)), SPUN);
         due("3: SPUN is counted", x.often(SPUN), 3);
         due("3: an endless quotient", x.turn(3, bits(-1.0E300)), Integer.MIN_VALUE);
         due("3: .. is no refusal", x.refused(), 0);
         due("3: .. rest", x.wheelOf(3, 0), bits(-1.0E300 % 1.0E-300));
         due("3: the quotient is rounded, the rest is not", x.turn(4, bits(1.0)), 10);
         due("3: .. rest", x.wheelOf(4, 0), bits(1.0 % 0.1));
-        dueRefused(x, "3: no number", x.turn(0, bits(Double.NaN)), BAD);
-        dueRefused(x, "3: wheel -1", x.turn(-1, 0), BAD);
-        dueRefused(x, "3: wheel 5", x.turn(5, 0), BAD);
+        dueNothing(x, "3: no number", x.turn(0, bits(Double.NaN)), BAD);
+        dueNothing(x, "3: wheel -1", x.turn(-1, 0), BAD);
+        dueNothing(x, "3: wheel 5", x.turn(5, 0), BAD);
     }
 
     private static void turnOfFloats() {
@@ -150,9 +114,9 @@ public final class Promises {
         x.turn(1, bits(16777216.0));
         x.turn(1, bits(1.0));
         due("3: floats: the sum is one", x.wheelOf(1, 0), bits(16777216.0f));
-        dueRefused(x, "3: floats: endless when cast", x.turn(1, bits(1.0E39)), SPUN);
+        dueNothing(x, "3: floats: endless when cast", x.turn(1, bits(1.0E39)), SPUN);
         x.turn(1, bits((double) Float.MAX_VALUE));
-        dueRefused(x, "3: floats: endless sum", x.turn(1, bits((double) Float.MAX_VALUE)), SPUN);
+        dueNothing(x, "3: floats: endless sum", x.turn(1, bits((double) Float.MAX_VALUE)), SPUN);
         x.wheel(FLOAT, bits(1.0E-45));
         due("3: floats: a quotient beyond the floats", x.turn(2, bits(1.0E38)), Integer.MAX_VALUE);
         due("3: floats: .. is no refusal", x.refused(), 0);
@@ -166,10 +130,10 @@ public final class Promises {
         due("4: turn of floats, as an int", x.wheelOf(1, 1), bits(-2.5f));
         x.turn(1, bits(-1.0));
         due("4: position", x.wheelOf(1, 0), bits(-1.0f));
-        dueRefused(x, "4: what = 2", x.wheelOf(0, 2), BAD);
-        dueRefused(x, "4: what = -1", x.wheelOf(0, -1), BAD);
-        dueRefused(x, "4: wheel 2", x.wheelOf(2, 0), BAD);
-        dueRefused(x, "4: wheel -1", x.wheelOf(-1, 0), BAD);
+        dueNothing(x, "4: what = 2", x.wheelOf(0, 2), BAD);
+        dueNothing(x, "4: what = -1", x.wheelOf(0, -1), BAD);
+        dueNothing(x, "4: wheel 2", x.wheelOf(2, 0), BAD);
+        dueNothing(x, "4: wheel -1", x.wheelOf(-1, 0), BAD);
     }
 
     private static void register() {
@@ -180,7 +144,7 @@ public final class Promises {
         due("5: no more", x.register(0), FULL);
         due("5: BAD before FULL", x.register(4), BAD);
         due("5: sixteen", x.count(1), 16);
-        dueRefused(x, "5: no seventeenth", x.read(16, 0), BAD);
+        dueNothing(x, "5: no seventeenth", x.read(16, 0), BAD);
         for (int i = 0; i < 16; i++) due("5: 0 at first", x.read(i, i % 4), 0);
         due("5: their kinds", x.load(12, DOUBLE, bits(1.5)) + x.load(15, DOUBLE, bits(1.5)), 2);
         due("5: an int", x.read(12, DOUBLE), bits(1.0));
@@ -244,10 +208,10 @@ public final class Promises {
         due("7: cut towards 0", x.read(3, INT), -2);
         x.load(3, DOUBLE, bits(1.0E-40));
         due("7: a float without leading digit", x.read(3, FLOAT), bits(1.0E-40f));
-        dueRefused(x, "7: kind 4", x.read(0, 4), BAD);
-        dueRefused(x, "7: kind -1", x.read(0, -1), BAD);
-        dueRefused(x, "7: register 4", x.read(4, 0), BAD);
-        dueRefused(x, "7: register -1", x.read(-1, 0), BAD);
+        dueNothing(x, "7: kind 4", x.read(0, 4), BAD);
+        dueNothing(x, "7: kind -1", x.read(0, -1), BAD);
+        dueNothing(x, "7: register 4", x.read(4, 0), BAD);
+        dueNothing(x, "7: register -1", x.read(-1, 0), BAD);
     }
 
     private static void move() {
@@ -409,7 +373,7 @@ public final class Promises {
         due("11: no ninth", x.tear(8), BAD);
         for (int lane = 1; lane < 4; lane++) due("11: 0 at first", x.kept(lane, lane, 15), 0);
         due("11: .. is no refusal", x.refused(), 0);
-        dueRefused(x, "11: no place of none", x.kept(4, 0, 0), INDEX);
+        dueNothing(x, "11: no place of none", x.kept(4, 0, 0), INDEX);
     }
 
     private static void tear() {
@@ -462,18 +426,18 @@ public final class Promises {
         x.load(0, DOUBLE, bits(2.0));
         due("14: kept, as an int", x.kept(0, FLOAT, 15), bits(-0.1f));
         due("14: no refusal", x.refused(), 0);
-        dueRefused(x, "14: place 16", x.kept(0, FLOAT, 16), INDEX);
-        dueRefused(x, "14: place -1", x.kept(0, FLOAT, -1), INDEX);
-        dueRefused(x, "14: another lane", x.kept(0, INT, 0), CAST);
-        dueRefused(x, "14: CAST before INDEX", x.kept(1, DOUBLE, 1), CAST);
-        dueRefused(x, "14: lane 4", x.kept(0, 4, 0), BAD);
-        dueRefused(x, "14: lane -1", x.kept(0, -1, 0), BAD);
-        dueRefused(x, "14: strip 2", x.kept(2, FLOAT, 0), BAD);
-        dueRefused(x, "14: strip -1", x.kept(-1, FLOAT, 0), BAD);
+        dueNothing(x, "14: place 16", x.kept(0, FLOAT, 16), INDEX);
+        dueNothing(x, "14: place -1", x.kept(0, FLOAT, -1), INDEX);
+        dueNothing(x, "14: another lane", x.kept(0, INT, 0), CAST);
+        dueNothing(x, "14: CAST before INDEX", x.kept(1, DOUBLE, 1), CAST);
+        dueNothing(x, "14: lane 4", x.kept(0, 4, 0), BAD);
+        dueNothing(x, "14: lane -1", x.kept(0, -1, 0), BAD);
+        dueNothing(x, "14: strip 2", x.kept(2, FLOAT, 0), BAD);
+        dueNothing(x, "14: strip -1", x.kept(-1, FLOAT, 0), BAD);
         x.tear(0);
-        dueRefused(x, "14: GONE", x.kept(0, FLOAT, 15), NULL);
-        dueRefused(x, "14: GONE, another lane, no place", x.kept(0, LONG, 16), NULL);
-        dueRefused(x, "14: BAD before NULL", x.kept(0, 4, 0), BAD);
+        dueNothing(x, "14: GONE", x.kept(0, FLOAT, 15), NULL);
+        dueNothing(x, "14: GONE, another lane, no place", x.kept(0, LONG, 16), NULL);
+        dueNothing(x, "14: BAD before NULL", x.kept(0, 4, 0), BAD);
     }
 
     private static void fill(OrreryWorks x, int strip, int lane, double... values) {
@@ -551,9 +515,9 @@ public final class Promises {
         due("17: no more", x.stand(0, 1), FULL);
         due("17: BAD before FULL", x.stand(0, 7), BAD);
         due("17: eight", x.count(4), 8);
-        dueRefused(x, "17: no ninth", x.all(8), BAD);
-        dueRefused(x, "17: bare at first", x.show(5, 5), NULL);
-        dueRefused(x, "17: no seventh", x.show(5, 6), INDEX);
+        dueNothing(x, "17: no ninth", x.all(8), BAD);
+        dueNothing(x, "17: bare at first", x.show(5, 5), NULL);
+        dueNothing(x, "17: no seventh", x.show(5, 6), INDEX);
     }
 
     /** Pointers 0 to 3 and stands 0 to 3, with two places each, by their sorts. */
@@ -579,7 +543,7 @@ public final class Promises {
         due("18: STORE is counted", x.often(STORE), 3);
         due("18: CAST is counted", x.often(CAST), 7);
         due("18: nothing", x.set(0, 1, NONE), 1);
-        dueRefused(x, "18: .. is there", x.show(0, 1), NULL);
+        dueNothing(x, "18: .. is there", x.show(0, 1), NULL);
         due("18: nothing, on the narrowest", x.set(2, 0, NONE), 1);
         due("18: nothing, but no row of HANDS", x.set(3, 0, NONE), CAST);
         due("18: place 2", x.set(0, 2, 0), INDEX);
@@ -604,7 +568,7 @@ public final class Promises {
         }
         due("19: it is there", x.show(3, 0), 1);
         due("19: nothing", x.hang(3, 0, NONE), 1);
-        dueRefused(x, "19: .. is there", x.show(3, 0), NULL);
+        dueNothing(x, "19: .. is there", x.show(3, 0), NULL);
         due("19: nothing on a narrow one", x.hang(2, 0, NONE), 1);
         due("19: place 2", x.hang(3, 2, 0), INDEX);
         due("19: place -1", x.hang(3, -1, 0), INDEX);
@@ -662,11 +626,11 @@ public final class Promises {
         due("20: floats are multiplied as doubles", f.show(0, 0), (long) ((double) 0.001f * 1000.0));
         f.turn(0, bits(0.3));
         due("20: what it shows turns with the wheel", f.show(0, 0), (long) ((double) (0.001f + 0.3f) * 1000.0));
-        dueRefused(x, "20: nothing there", x.show(0, 0), NULL);
-        dueRefused(x, "20: place 2", x.show(0, 2), INDEX);
-        dueRefused(x, "20: place -1", x.show(0, -1), INDEX);
-        dueRefused(x, "20: stand 4", x.show(4, 0), BAD);
-        dueRefused(x, "20: stand -1", x.show(-1, 0), BAD);
+        dueNothing(x, "20: nothing there", x.show(0, 0), NULL);
+        dueNothing(x, "20: place 2", x.show(0, 2), INDEX);
+        dueNothing(x, "20: place -1", x.show(0, -1), INDEX);
+        dueNothing(x, "20: stand 4", x.show(4, 0), BAD);
+        dueNothing(x, "20: stand -1", x.show(-1, 0), BAD);
     }
 
     private static void all() {
@@ -681,8 +645,8 @@ public final class Promises {
         x.hang(0, 0, 2);
         x.hang(0, 1, 2);
         due("21: the same twice", x.all(0), 2 * bits(-12345.0f));
-        dueRefused(x, "21: stand 4", x.all(4), BAD);
-        dueRefused(x, "21: stand -1", x.all(-1), BAD);
+        dueNothing(x, "21: stand 4", x.all(4), BAD);
+        dueNothing(x, "21: stand -1", x.all(-1), BAD);
         OrreryWorks y = withWheels(ENDLESS);
         y.turn(0, bits(1.0E300));
         y.pointer(1, 0);
