@@ -139,6 +139,20 @@ public final class TermsAtTheirEdges extends Sentences {
                 dueNumber(x, "double " + value, x.read(0, DOUBLE), bits(value));
             }
         });
+        sentence("of a float its 32 bits, .. of a double its 64 bits (with each exponent)", () -> {
+            for (long exponent = 0; exponent < 2047; exponent++) {
+                OrreryWorks x = withRegisters(FLOAT, DOUBLE);
+                for (long digits : new long[] {0, 1, 0xA_5A5A_5A5A_5A5BL, (1L << 52) - 1}) {
+                    long bits = exponent << 52 | digits;
+                    x.load(1, DOUBLE, bits);
+                    dueNumber(x, "double bits " + bits, x.read(1, DOUBLE), bits);
+                    if (exponent > 254) continue;
+                    long floatBits = exponent << 23 | digits & (1L << 23) - 1;
+                    x.load(0, FLOAT, floatBits);
+                    dueNumber(x, "float bits " + floatBits, x.read(0, FLOAT), floatBits);
+                }
+            }
+        });
         sentence("KINDS 0 int, 1 long, 2 float, 3 double.", () -> {
             OrreryWorks x = withSome();
             for (int kind : new int[] {-1, 4, Integer.MIN_VALUE, Integer.MAX_VALUE}) {
@@ -341,7 +355,7 @@ public final class TermsAtTheirEdges extends Sentences {
             x.turn(2, bits(0.1));
             due("rounded", x.wheelOf(2, 0), bits(0.1f));
             x.turn(3, bits(16777216.0));
-            x.turn(3, bits(1.0000000000000002));
+            x.turn(3, bits(1.00000001));
             due("cast before it is added", x.wheelOf(3, 0), bits(16777216.0f));
         });
         sentence("SUM is POSITION and that", () -> {
@@ -531,6 +545,8 @@ public final class TermsAtTheirEdges extends Sentences {
                 dueWorked("plus 0", 0, kind, a, other, 0, LONG, a);
                 dueWorked("less 0", 1, kind, a, other, 0, LONG, a);
                 dueWorked("times 0", 2, kind, a, other, 0, LONG, 0);
+                dueWorked("by 1", 3, kind, a, other, 1, LONG, a);
+                dueWorked("the rest by 1", 4, kind, a, other, 1, LONG, 0);
                 dueWorked("0 by 1", 3, kind, 0, other, 1, LONG, 0);
                 dueWorked("the rest of 0 by -1", 4, kind, 0, other, -1, LONG, 0);
             }
