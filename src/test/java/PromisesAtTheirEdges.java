@@ -354,6 +354,19 @@ public final class PromisesAtTheirEdges extends Sentences {
             due("endless as a float", x.rests(1, 3), 2);
             due("endless", x.read(3, FLOAT), bits(Float.NEGATIVE_INFINITY));
         });
+        sentence("15: .. in its KIND (a STRIP's, which is its LANE, whatever the REGISTER's), CAST (after it)", () -> {
+            dueAdded("doubles into a float", DOUBLE, FLOAT, bits(16777218.0f), 16777216.0, 1.0, 1.0);
+            dueAdded("doubles into an int", DOUBLE, INT, 1, 0.5, 0.5);
+            dueAdded("doubles beyond the ints between", DOUBLE, INT, 2000000000, 3.0E9, -1.0E9);
+            dueAdded("doubles into a long", DOUBLE, LONG, 1, 0.75, 0.75);
+            dueAdded("doubles beyond the longs between", DOUBLE, LONG, 1000000000000000000L, 1.0E19, -9.0E18);
+            dueAdded("doubles beyond the floats between", DOUBLE, FLOAT, bits(1.0E38f), 1.0E39, -9.0E38);
+            dueAdded("floats into a double", FLOAT, DOUBLE, bits(16777216.0), 16777216.0, 1.0, 1.0);
+            dueAdded("floats into an int", FLOAT, INT, 16777216, 16777216.0, 1.0, 1.0);
+            dueAdded("floats into a long", FLOAT, LONG, 16777216, 16777216.0, 1.0, 1.0);
+            dueAdded("floats into a float", FLOAT, FLOAT, bits(0.1f + 0.2f + 0.7f), 0.1, 0.2, 0.7);
+            dueAdded("floats whose sum is endless stay so", FLOAT, DOUBLE, bits(ENDLESS), Float.MAX_VALUE, Float.MAX_VALUE, -Float.MAX_VALUE);
+        });
         sentence("15: how many rests there were", () -> {
             dueRests("rests of 0 are rests", 3, 0.0, 0.0, 4.0, 2.0, 1.0);
             dueRests("none", 0, 0.0, 1.0, 0.0);
@@ -396,6 +409,20 @@ public final class PromisesAtTheirEdges extends Sentences {
             loadDouble(x, 0, values[i]);
             x.keep(strip, lane, i, 0);
         }
+    }
+
+    /** Each value stands before an endless one: so it is its own rest, and the endless one is gone by. */
+    private static void dueAdded(String what, int lane, int kind, long want, double... values) {
+        double[] places = new double[2 * values.length];
+        for (int i = 0; i < values.length; i++) {
+            places[2 * i] = values[i];
+            places[2 * i + 1] = ENDLESS;
+        }
+        OrreryWorks x = withRegisters(DOUBLE, kind);
+        x.strip(lane, places.length);
+        fill(x, lane, 0, places);
+        due(what, x.rests(0, 1), values.length);
+        dueNumber(x, what + ", added", x.read(1, kind), want);
     }
 
     /** The same of floats and of doubles, whose values here are the same. */
