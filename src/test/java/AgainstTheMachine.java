@@ -1,3 +1,4 @@
+import java.lang.reflect.Array;
 import java.util.ArrayList;
 import java.util.List;
 
@@ -7,7 +8,9 @@ import java.util.List;
  * real arrays, whose refusals it learns from what the machine throws.
  */
 public final class AgainstTheMachine {
-    private static final int RUNS = 6000, CALLS = 512;
+    private static final int RUNS = 10000, CALLS = 512;
+    /** A strip of sixteen places that is filled, and what is asked after it. */
+    private static final int CALLS_OF_A_STEP = 2 * 16 + 2 + 3;
     private static int wrong = 0;
 
     public static void main(String[] args) {
@@ -25,21 +28,21 @@ public final class AgainstTheMachine {
 
     /** Bits go in and come out again, over all exponents. */
     private static void roundTrips() {
-        OrreryWorks x = new OrreryWorks();
-        x.register(2);
-        x.register(3);
         for (long bits = Integer.MIN_VALUE; bits <= Integer.MAX_VALUE; bits += 9973) {
-            boolean isNaN = Float.isNaN(Float.intBitsToFloat((int) bits));
-            due(-1, 0, "load(0, 2, " + bits + ")", x.load(0, 2, bits), isNaN ? OrreryWorks.BAD : 1);
-            if (!isNaN) due(-1, 0, "read(0, 2) of " + bits, x.read(0, 2), bits);
+            roundTrip(2, bits, Float.isNaN(Float.intBitsToFloat((int) bits)));
         }
         Draw draw = new Draw(77);
         for (int i = 0; i < 300000; i++) {
             long bits = draw.next();
-            boolean isNaN = Double.isNaN(Double.longBitsToDouble(bits));
-            due(-1, i, "load(1, 3, " + bits + ")", x.load(1, 3, bits), isNaN ? OrreryWorks.BAD : 1);
-            if (!isNaN) due(-1, i, "read(1, 3) of " + bits, x.read(1, 3), bits);
+            roundTrip(3, bits, Double.isNaN(Double.longBitsToDouble(bits)));
         }
+    }
+
+    private static void roundTrip(int kind, long bits, boolean isNaN) {
+        OrreryWorks x = new OrreryWorks();
+        x.register(kind);
+        due(-1, 2, "load(0, " + kind + ", " + bits + ")", x.load(0, kind, bits), isNaN ? OrreryWorks.BAD : 1);
+        due(-1, 3, "read(0, " + kind + ")", x.read(0, kind), isNaN ? 0 : bits);
     }
 
     /** A fixed row of numbers: the same in every run of the tests. */
@@ -84,8 +87,12 @@ public final class AgainstTheMachine {
                 case 8: return below(2) == 0 ? Math.nextDown(2147483648.0) : -2147483649.0;
                 case 9: return Double.longBitsToDouble(next());
                 case 10: return Float.intBitsToFloat((int) next());
-                default: return (below(4001) - 2000) / (double) (1 + below(100));
+                default: return ordinary();
             }
+        }
+
+        double ordinary() {
+            return (below(4001) - 2000) / (double) (1 + below(100));
         }
 
         long bits(int kind) {
@@ -108,6 +115,7 @@ public final class AgainstTheMachine {
         private final Draw draw;
         private final OrreryWorks x = new OrreryWorks();
         private final Model m = new Model();
+        private int calls = 0;
 
         Run(int run) {
             this.run = run;
@@ -115,79 +123,105 @@ public final class AgainstTheMachine {
         }
 
         void go() {
-            for (int call = 0; call + 4 < CALLS && wrong < 20; call += 4) {
-                one(call);
-                due(run, call, "refused()", x.refused(), m.latest);
+            while (calls + CALLS_OF_A_STEP <= CALLS && wrong < 20) {
+                one();
+                ask("refused()", x.refused(), m.latest);
                 int refusal = -1 - draw.below(11);
-                due(run, call, "often(" + refusal + ")", x.often(refusal), m.oftenOf(refusal));
+                ask("often(" + refusal + ")", x.often(refusal), m.oftenOf(refusal));
                 int what = draw.about(5);
-                due(run, call, "count(" + what + ")", x.count(what), m.countOf(what));
+                ask("count(" + what + ")", x.count(what), m.countOf(what));
             }
         }
 
-        private void one(int call) {
+        /** Each call is counted, since what an object answers after its last one is free. */
+        private void ask(String what, long got, long want) {
+            calls++;
+            due(run, calls, what, got, want);
+        }
+
+        private void askOwnValue(int register) {
+            if (Model.lacks(m.registers, register)) return;
+            int kind = m.kindOf(register);
+            ask("read(" + register + ", " + kind + ")", x.read(register, kind), m.read(register, kind));
+        }
+
+        private void rest(int strip, int register) {
+            ask("rests(" + strip + ", " + register + ")", x.rests(strip, register), m.rests(strip, register));
+            askOwnValue(register);
+        }
+
+        /** Places that are filled here and there seldom come to several rests. */
+        private void fillAndRest(int strip, int register) {
+            int lane = m.laneOf(strip), from = m.someDouble();
+            boolean ordinary = draw.below(2) == 0;
+            for (int i = 0; i < m.lengthOf(strip); i++) {
+                long bits = Double.doubleToRawLongBits(ordinary ? draw.ordinary() : draw.number());
+                ask("load(" + from + ", 3, " + bits + ")", x.load(from, 3, bits), m.load(from, 3, bits));
+                ask("keep(" + strip + ", " + lane + ", " + i + ", " + from + ")", x.keep(strip, lane, i, from), m.keep(strip, lane, i, from));
+            }
+            rest(strip, register);
+        }
+
+        private void one() {
             int w = draw.about(m.wheels.size()), r = draw.about(m.registers.size()), q = draw.about(m.registers.size());
             int s = draw.about(m.strips.size()), p = draw.about(m.pointers.size()), t = draw.about(m.stands.size());
             int kind = draw.about(4), place = draw.about(4);
             long bits = draw.bits(kind);
-            switch (draw.below(25)) {
+            switch (draw.below(26)) {
                 case 0: {
                     int k = draw.below(20) == 0 ? kind : 2 + draw.below(2);
                     long turn = draw.bits(3);
-                    due(run, call, "wheel(" + k + ", " + turn + ")", x.wheel(k, turn), m.wheel(k, turn));
+                    ask("wheel(" + k + ", " + turn + ")", x.wheel(k, turn), m.wheel(k, turn));
                     break;
                 }
                 case 1: case 2: case 3: {
                     long by = draw.bits(3);
-                    due(run, call, "turn(" + w + ", " + by + ")", x.turn(w, by), m.turn(w, by));
-                    for (int what = -1; what < 3; what++) due(run, call, "wheelOf(" + w + ", " + what + ")", x.wheelOf(w, what), m.wheelOf(w, what));
+                    ask("turn(" + w + ", " + by + ")", x.turn(w, by), m.turn(w, by));
+                    for (int what = -1; what < 3; what++) ask("wheelOf(" + w + ", " + what + ")", x.wheelOf(w, what), m.wheelOf(w, what));
                     break;
                 }
-                case 4: due(run, call, "register(" + kind + ")", x.register(kind), m.register(kind)); break;
-                case 5: case 6: case 7: due(run, call, "load(" + r + ", " + kind + ", " + bits + ")", x.load(r, kind, bits), m.load(r, kind, bits)); break;
-                case 8: due(run, call, "read(" + r + ", " + kind + ")", x.read(r, kind), m.read(r, kind)); break;
-                case 9: due(run, call, "move(" + r + ", " + q + ")", x.move(r, q), m.move(r, q)); break;
-                case 10: due(run, call, "take(" + w + ", " + r + ")", x.take(w, r), m.take(w, r)); break;
+                case 4: ask("register(" + kind + ")", x.register(kind), m.register(kind)); break;
+                case 5: case 6: case 7: ask("load(" + r + ", " + kind + ", " + bits + ")", x.load(r, kind, bits), m.load(r, kind, bits)); break;
+                case 8: ask("read(" + r + ", " + kind + ")", x.read(r, kind), m.read(r, kind)); break;
+                case 9: ask("move(" + r + ", " + q + ")", x.move(r, q), m.move(r, q)); break;
+                case 10: ask("take(" + w + ", " + r + ")", x.take(w, r), m.take(w, r)); break;
                 case 11: case 12: case 13: {
                     int what = draw.about(5), to = draw.about(m.registers.size());
-                    due(run, call, "work(" + what + ", " + r + ", " + q + ", " + to + ")", x.work(what, r, q, to), m.work(what, r, q, to));
-                    if (to >= 0 && to < m.registers.size()) due(run, call, "read(" + to + ", own)", x.read(to, m.kindOf(to)), m.read(to, m.kindOf(to)));
+                    ask("work(" + what + ", " + r + ", " + q + ", " + to + ")", x.work(what, r, q, to), m.work(what, r, q, to));
+                    askOwnValue(to);
                     break;
                 }
                 case 14: {
                     int n = draw.below(3) == 0 ? draw.about(17) : draw.about(6);
-                    due(run, call, "strip(" + kind + ", " + n + ")", x.strip(kind, n), m.strip(kind, n));
+                    ask("strip(" + kind + ", " + n + ")", x.strip(kind, n), m.strip(kind, n));
                     break;
                 }
                 case 15:
-                    if (draw.below(4) == 0) due(run, call, "tear(" + s + ")", x.tear(s), m.tear(s));
+                    if (draw.below(4) == 0) ask("tear(" + s + ")", x.tear(s), m.tear(s));
                     break;
                 case 16: case 17: {
                     int lane = draw.below(8) == 0 ? kind : m.laneOf(s);
-                    due(run, call, "keep(" + s + ", " + lane + ", " + place + ", " + r + ")", x.keep(s, lane, place, r), m.keep(s, lane, place, r));
+                    ask("keep(" + s + ", " + lane + ", " + place + ", " + r + ")", x.keep(s, lane, place, r), m.keep(s, lane, place, r));
                     break;
                 }
                 case 18: {
                     int lane = draw.below(8) == 0 ? kind : m.laneOf(s);
-                    due(run, call, "kept(" + s + ", " + lane + ", " + place + ")", x.kept(s, lane, place), m.kept(s, lane, place));
+                    ask("kept(" + s + ", " + lane + ", " + place + ")", x.kept(s, lane, place), m.kept(s, lane, place));
                     break;
                 }
-                case 19: {
-                    due(run, call, "rests(" + s + ", " + r + ")", x.rests(s, r), m.rests(s, r));
-                    due(run, call, "read(" + r + ", 3)", x.read(r, 3), m.read(r, 3));
-                    break;
-                }
-                case 20: due(run, call, "pointer(" + kind + ", " + w + ")", x.pointer(kind, w), m.pointer(kind, w)); break;
-                case 21: {
+                case 19: rest(s, r); break;
+                case 20: fillAndRest(s, r); break;
+                case 21: ask("pointer(" + kind + ", " + w + ")", x.pointer(kind, w), m.pointer(kind, w)); break;
+                case 22: {
                     int n = draw.about(7);
-                    due(run, call, "stand(" + kind + ", " + n + ")", x.stand(kind, n), m.stand(kind, n));
+                    ask("stand(" + kind + ", " + n + ")", x.stand(kind, n), m.stand(kind, n));
                     break;
                 }
-                case 22: due(run, call, "set(" + t + ", " + place + ", " + p + ")", x.set(t, place, p), m.set(t, place, p)); break;
-                case 23: due(run, call, "hang(" + t + ", " + place + ", " + p + ")", x.hang(t, place, p), m.hang(t, place, p)); break;
+                case 23: ask("set(" + t + ", " + place + ", " + p + ")", x.set(t, place, p), m.set(t, place, p)); break;
+                case 24: ask("hang(" + t + ", " + place + ", " + p + ")", x.hang(t, place, p), m.hang(t, place, p)); break;
                 default:
-                    due(run, call, "show(" + t + ", " + place + ")", x.show(t, place), m.show(t, place));
-                    due(run, call, "all(" + t + ")", x.all(t), m.all(t));
+                    ask("show(" + t + ", " + place + ")", x.show(t, place), m.show(t, place));
+                    ask("all(" + t + ")", x.all(t), m.all(t));
             }
         }
     }
@@ -310,6 +344,17 @@ public final class AgainstTheMachine {
         int laneOf(int strip) {
             Object o = lacks(strips, strip) ? null : strips.get(strip);
             return o instanceof int[] ? 0 : o instanceof long[] ? 1 : o instanceof float[] ? 2 : 3;
+        }
+
+        int lengthOf(int strip) {
+            Object o = lacks(strips, strip) ? null : strips.get(strip);
+            return o == null ? 0 : Array.getLength(o);
+        }
+
+        /** A register of doubles, if there is one. */
+        int someDouble() {
+            for (int register = 0; register < registers.size(); register++) if (kindOf(register) == 3) return register;
+            return 0;
         }
 
         static Number cast(Number n, int kind) {

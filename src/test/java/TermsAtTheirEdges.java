@@ -96,7 +96,8 @@ public final class TermsAtTheirEdges extends Sentences {
         sentence("An object is used for at most 512 calls after it has been made", () -> {
             OrreryWorks x = new OrreryWorks();
             x.wheel(DOUBLE, bits(ENDLESS));
-            for (int call = 2; call <= 510; call++) dueNothing(x, "call " + call, x.turn(0, bits(ENDLESS)), SPUN);
+            for (int call = 2; call <= 510; call += 2) dueNothing(x, "call " + call, x.turn(0, bits(ENDLESS)), SPUN);
+            due("call 512", x.often(SPUN), 255);
             OrreryWorks y = new OrreryWorks();
             y.wheel(DOUBLE, bits(2.0));
             for (int call = 2; call <= 511; call++) due("call " + call, y.turn(0, bits(1.0)), call % 2);
